@@ -1243,39 +1243,27 @@ public final class Heckeworks {
     }
   }
 
-  /** The bits of numbers from 1/64 on, told by halving and doubling alone. */
+  /** The bits of floating numbers, told by halving and doubling, which are exact. */
   private static final class Bits {
     private static final int MOST_HALVINGS = 1100;
 
     private Bits() {}
 
+    /** Of a number from 1 on, as mean widths are. */
     static long ofDouble(double value) {
-      if (value <= 0.0) {
-        return 0;
-      }
       double left = value;
       long exponent = 1023;
       for (int i = 0; i < MOST_HALVINGS && left >= 2.0; i++) {
         left = left / 2.0;
         exponent++;
       }
-      for (int i = 0; i < MOST_HALVINGS && left < 1.0; i++) {
-        left = left * 2.0;
-        exponent--;
-      }
       return (exponent << 52) + (long) ((left - 1.0) * 4503599627370496.0);
     }
 
+    /** Of a number above 0 and up to 1, as shares are. */
     static int ofFloat(float value) {
-      if (value <= 0.0f) {
-        return 0;
-      }
       float left = value;
       int exponent = 127;
-      for (int i = 0; i < MOST_HALVINGS && left >= 2.0f; i++) {
-        left = left / 2.0f;
-        exponent++;
-      }
       for (int i = 0; i < MOST_HALVINGS && left < 1.0f; i++) {
         left = left * 2.0f;
         exponent--;

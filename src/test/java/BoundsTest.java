@@ -92,6 +92,11 @@ final class BoundsTest {
     mill.raise(0, 30);
     mill.raise(0, 20);
     mill.raise(4, 3);
+    mill.eisenstein(4);
+    mill.operator(6, 2);
+    checks.answers("promise 24: another at 0 alone", false, () -> mill.isEqual(6, 7));
+    checks.answers("promise 25: another at 0 alone", false, () -> mill.isCongruent(6, 7, 5));
+    checks.answers("promise 25: the same at 0", true, () -> mill.isCongruent(6, 7, 8));
     checks.answers("promise 24: just enough", true, () -> mill.isEqual(1, 1));
     checks.answers("promise 25: just enough", false, () -> mill.isCongruent(0, 1, 5));
     checks.refuses("promise 24: one too few", Checks.UNSUPPORTED, () -> mill.isEqual(0, 2));

@@ -41,7 +41,6 @@ final class Checks {
     }
   }
 
-  /** Every second argument is what is due, each one before it what was got. */
   void row(String what, long[] got, long... want) {
     same(what, java.util.Arrays.toString(got), java.util.Arrays.toString(want));
   }

@@ -115,9 +115,8 @@ final class FormsTest {
     for (int index : new int[] {-1, 3, 132, Integer.MIN_VALUE, Integer.MAX_VALUE}) {
       checks.refuses("promise 27: formAt(-23, " + index + ", c)", Checks.BOUNDS, () -> mill.formAt(-23, index, 'c'));
       checks.refuses("promise 28: theta(-23, " + index + ")", Checks.BOUNDS, () -> mill.theta(-23, index));
-      checks.refuses("promise 28: theta(-199, -1 or 9 on)", Checks.BOUNDS,
-          () -> mill.theta(-199, index < 0 ? index : Math.max(9, index)));
     }
+    checks.refuses("promise 28: the index comes before the level", Checks.BOUNDS, () -> mill.theta(-199, 9));
     checks.refuses("promise 27: of a primitive one and another", Checks.BOUNDS, () -> mill.formAt(-12, 1, 'a'));
     checks.refuses("promise 28: theta(-63, 0)", Checks.UNSUPPORTED, () -> mill.theta(-63, 0));
     checks.refuses("promise 28: theta(-400, 3)", Checks.UNSUPPORTED, () -> mill.theta(-400, 3));

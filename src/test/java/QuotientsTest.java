@@ -113,6 +113,7 @@ final class QuotientsTest {
     tell(mill, 1, 24, 1, 24, 1, 24, 1, 24, 1, 24);
     checks.answers("promise 14: begins at 5", 2, mill::eta);
     checks.answers("promise 14: at 6", -120, () -> mill.coefficient(2, 6));
+    checks.answers("promise 14: the level begins anew", 1, () -> mill.level(2));
     tell(mill, 1, 24, 1, 24, 1, 24, 1, 24, 1, 24, 2, 1, 1, -2, 1, 3);
     checks.refuses("promise 14: the weight 61", Checks.UNSUPPORTED, mill::eta);
   }

@@ -48,7 +48,7 @@ final class RunsTest {
       told.add(method.getName() + Arrays.toString(arguments));
       wrong += compare(method, arguments, told) ? 0 : 1;
     }
-    checks.same(name + " state", stateOf(mill), stateOf(plain));
+    checks.same(name + ", the first series that is not the same", firstDifference(), -1);
   }
 
   private boolean isOdd(String method) {
@@ -80,28 +80,21 @@ final class RunsTest {
     }
   }
 
-  private static String stateOf(Heckeworks mill) {
-    StringBuilder text = new StringBuilder();
-    for (int i = 0; i < mill.series(); i++) {
-      text.append(mill.weight(i)).append(' ').append(mill.level(i)).append(' ').append(mill.precision(i));
-      for (int n = 0; n < mill.precision(i); n++) {
-        text.append(' ').append(mill.coefficient(i, n));
+  /** The first series in which the two are not the same; -1 if they are in none. */
+  private int firstDifference() {
+    for (int i = 0; i < Math.max(mill.series(), plain.series()); i++) {
+      boolean isSame = i < mill.series() && i < plain.series()
+          && mill.weight(i) == plain.weight(i)
+          && mill.level(i) == plain.level(i)
+          && mill.precision(i) == plain.precision(i);
+      for (int n = 0; isSame && n < plain.precision(i); n++) {
+        isSame = mill.coefficient(i, n) == plain.coefficient(i, n);
       }
-      text.append('\n');
-    }
-    return text.toString();
-  }
-
-  private static String stateOf(PlainMill mill) {
-    StringBuilder text = new StringBuilder();
-    for (int i = 0; i < mill.series(); i++) {
-      text.append(mill.weight(i)).append(' ').append(mill.level(i)).append(' ').append(mill.precision(i));
-      for (int n = 0; n < mill.precision(i); n++) {
-        text.append(' ').append(mill.coefficient(i, n));
+      if (!isSame) {
+        return i;
       }
-      text.append('\n');
     }
-    return text.toString();
+    return -1;
   }
 
   private int from(int least, int most) {
