@@ -54,7 +54,9 @@ final class QuotientsTest {
       tell(mill, factors);
       checks.answers("promise 13: " + java.util.Arrays.toString(factors), true, mill::isWhole);
     }
-    int[][] areNot = {{1, -1}, {4, -3, 2, 5, 1, -2}, {2, 1, 1, -1, 1, -1}, {4, 2, 2, -3, 1, 2}, {30, -1}, {1, 8, 2, -5}};
+    int[][] areNot = {
+      {1, -1}, {4, -3, 2, 5, 1, -2}, {2, 1, 1, -1, 1, -1}, {4, 2, 2, -3, 1, 2}, {30, -1}, {1, 8, 2, -5}
+    };
     for (int[] factors : areNot) {
       Heckeworks mill = new Heckeworks();
       tell(mill, factors);
