@@ -7,7 +7,7 @@ final class EdgesTest {
   private static final int MAX = Integer.MAX_VALUE;
 
   private static final Checks checks = new Checks();
-  private static final Heckeworks mill = new Heckeworks();
+  private static final Supply supply = new Supply();
 
   public static void main(String[] args) {
     levels();
@@ -32,27 +32,31 @@ final class EdgesTest {
     checks.finish();
   }
 
+  private static Heckeworks mill() {
+    return supply.mill();
+  }
+
   private static void levels() {
     int[] least = {1, 1, 0};
     int[] greatest = {144, 12, 7};
     for (int[] row : new int[][] {{1, 0}, {60, 1}}) {
       int level = row[0];
       int[] due = row[1] == 0 ? least : greatest;
-      checks.answers("promise 2: index(" + level + ")", due[0], () -> mill.index(level));
-      checks.answers("promise 4: cusps(" + level + ")", due[1], () -> mill.cusps(level));
-      checks.answers("promise 6: genus(" + level + ")", due[2], () -> mill.genus(level));
-      checks.answers("promise 7: genusAnew(" + level + ")", due[2], () -> mill.genusAnew(level));
-      checks.answers("promise 39: meanWidth(" + level + ")", row[1] == 0 ? 1.0 : 12.0, () -> mill.meanWidth(level));
+      checks.answers("promise 2: index(" + level + ")", due[0], () -> mill().index(level));
+      checks.answers("promise 4: cusps(" + level + ")", due[1], () -> mill().cusps(level));
+      checks.answers("promise 6: genus(" + level + ")", due[2], () -> mill().genus(level));
+      checks.answers("promise 7: genusAnew(" + level + ")", due[2], () -> mill().genusAnew(level));
+      checks.answers("promise 39: meanWidth(" + level + ")", row[1] == 0 ? 1.0 : 12.0, () -> mill().meanWidth(level));
       checks.answers("promise 40: widthBits(" + level + ")", row[1] == 0 ? 0x3FF0000000000000L : 0x4028000000000000L,
-          () -> mill.widthBits(level));
+          () -> mill().widthBits(level));
     }
     for (int level : new int[] {0, 61, MIN, MAX}) {
-      checks.refuses("promise 2: index(" + level + ")", Checks.ARGUMENT, () -> mill.index(level));
-      checks.refuses("promise 4: cusps(" + level + ")", Checks.ARGUMENT, () -> mill.cusps(level));
-      checks.refuses("promise 6: genus(" + level + ")", Checks.ARGUMENT, () -> mill.genus(level));
-      checks.refuses("promise 7: genusAnew(" + level + ")", Checks.ARGUMENT, () -> mill.genusAnew(level));
-      checks.refuses("promise 39: meanWidth(" + level + ")", Checks.ARGUMENT, () -> mill.meanWidth(level));
-      checks.refuses("promise 40: widthBits(" + level + ")", Checks.ARGUMENT, () -> mill.widthBits(level));
+      checks.refuses("promise 2: index(" + level + ")", Checks.ARGUMENT, () -> mill().index(level));
+      checks.refuses("promise 4: cusps(" + level + ")", Checks.ARGUMENT, () -> mill().cusps(level));
+      checks.refuses("promise 6: genus(" + level + ")", Checks.ARGUMENT, () -> mill().genus(level));
+      checks.refuses("promise 7: genusAnew(" + level + ")", Checks.ARGUMENT, () -> mill().genusAnew(level));
+      checks.refuses("promise 39: meanWidth(" + level + ")", Checks.ARGUMENT, () -> mill().meanWidth(level));
+      checks.refuses("promise 40: widthBits(" + level + ")", Checks.ARGUMENT, () -> mill().widthBits(level));
     }
     // Means that are no whole number, the greatest one of all, and those of neighbours.
     double[][] means = {
@@ -60,11 +64,11 @@ final class EdgesTest {
     };
     for (double[] row : means) {
       int level = (int) row[0];
-      checks.answers("promise 39: meanWidth(" + level + ")", row[1], () -> mill.meanWidth(level));
+      checks.answers("promise 39: meanWidth(" + level + ")", row[1], () -> mill().meanWidth(level));
       checks.answers("promise 40: widthBits(" + level + ")", Double.doubleToLongBits(row[1]),
-          () -> mill.widthBits(level));
+          () -> mill().widthBits(level));
     }
-    checks.answers("promise 40: widthBits(2), by hand", 0x3FF8000000000000L, () -> mill.widthBits(2));
+    checks.answers("promise 40: widthBits(2), by hand", 0x3FF8000000000000L, () -> mill().widthBits(2));
   }
 
   private static void pairs() {
@@ -76,7 +80,7 @@ final class EdgesTest {
     };
     for (int[] row : are) {
       checks.answers("promise 3: coset(" + row[0] + ", " + row[1] + ", " + row[2] + ")", row[3],
-          () -> mill.coset(row[0], row[1], row[2]));
+          () -> mill().coset(row[0], row[1], row[2]));
     }
     int[][] areNot = {
       {4, 2, 2}, {4, 0, 2}, {4, 2, 0}, {4, 0, 0}, {2, 0, 0}, {6, 3, 3}, {6, 2, 4}, {6, 0, 3}, {9, 3, 6}, {60, 30, 30},
@@ -84,7 +88,7 @@ final class EdgesTest {
     };
     for (int[] row : areNot) {
       checks.refuses("promise 3: coset(" + row[0] + ", " + row[1] + ", " + row[2] + ")", Checks.UNSUPPORTED,
-          () -> mill.coset(row[0], row[1], row[2]));
+          () -> mill().coset(row[0], row[1], row[2]));
     }
     // Taken modulo the level: from the level on, below 0, and at the ends of the ints, 2^31 being 2 modulo 7.
     int[][] moduloSeven = {
@@ -93,7 +97,7 @@ final class EdgesTest {
     };
     for (int[] row : moduloSeven) {
       checks.answers("promise 3: coset(7, " + row[0] + ", " + row[1] + ")", row[2],
-          () -> mill.coset(7, row[0], row[1]));
+          () -> mill().coset(7, row[0], row[1]));
     }
   }
 
@@ -109,17 +113,17 @@ final class EdgesTest {
       for (int i = 0; 2 * i + 2 < row.length; i++) {
         int c = row[2 * i + 1];
         int d = row[2 * i + 2];
-        checks.answers("promise 3: coset " + i + " of " + level, i, () -> mill.coset(level, c, d));
+        checks.answers("promise 3: coset " + i + " of " + level, i, () -> mill().coset(level, c, d));
         checks.answers("promise 3: coset " + i + " of " + level + ", the other sign", i,
-            () -> mill.coset(level, -c, -d));
+            () -> mill().coset(level, -c, -d));
         checks.answers("promise 3: coset " + i + " of " + level + ", times what divides nothing of it", i,
-            () -> mill.coset(level, c * 5, d * 5));
+            () -> mill().coset(level, c * 5, d * 5));
       }
-      checks.answers("promise 2: index(" + level + ")", row.length / 2, () -> mill.index(level));
+      checks.answers("promise 2: index(" + level + ")", row.length / 2, () -> mill().index(level));
     }
-    checks.answers("promise 3: of the level 8, times 3", 9, () -> mill.coset(8, 6, 3));
-    checks.answers("promise 3: of the level 8, times 7", 9, () -> mill.coset(8, 6, 7));
-    checks.answers("promise 3: of the level 8, another one", 10, () -> mill.coset(8, 6, 1));
+    checks.answers("promise 3: of the level 8, times 3", 9, () -> mill().coset(8, 6, 3));
+    checks.answers("promise 3: of the level 8, times 7", 9, () -> mill().coset(8, 6, 7));
+    checks.answers("promise 3: of the level 8, another one", 10, () -> mill().coset(8, 6, 1));
   }
 
   private static void widths() {
@@ -131,11 +135,11 @@ final class EdgesTest {
       int level = row[0];
       for (int i = 0; i + 1 < row.length; i++) {
         int cusp = i;
-        checks.answers("promise 5: width(" + level + ", " + i + ")", row[i + 1], () -> mill.width(level, cusp));
+        checks.answers("promise 5: width(" + level + ", " + i + ")", row[i + 1], () -> mill().width(level, cusp));
       }
-      checks.answers("promise 4: cusps(" + level + ")", row.length - 1, () -> mill.cusps(level));
+      checks.answers("promise 4: cusps(" + level + ")", row.length - 1, () -> mill().cusps(level));
       for (int cusp : new int[] {-1, row.length - 1, MIN, MAX}) {
-        checks.refuses("promise 5: width(" + level + ", " + cusp + ")", Checks.BOUNDS, () -> mill.width(level, cusp));
+        checks.refuses("promise 5: width(" + level + ", " + cusp + ")", Checks.BOUNDS, () -> mill().width(level, cusp));
       }
     }
   }
@@ -148,8 +152,8 @@ final class EdgesTest {
       {57, 5}, {58, 6}, {59, 5}
     };
     for (int[] row : known) {
-      checks.answers("promise 6: genus(" + row[0] + ")", row[1], () -> mill.genus(row[0]));
-      checks.answers("promise 7: genusAnew(" + row[0] + ")", row[1], () -> mill.genusAnew(row[0]));
+      checks.answers("promise 6: genus(" + row[0] + ")", row[1], () -> mill().genus(row[0]));
+      checks.answers("promise 7: genusAnew(" + row[0] + ")", row[1], () -> mill().genusAnew(row[0]));
     }
   }
 
@@ -161,35 +165,35 @@ final class EdgesTest {
       {-2584, 6765, 19}, {6, 4, 2}, {-6, 4, 2}, {8, 4, 1}, {-8, 4, 1}, {7, 4, 3}, {-7, 4, 2}
     };
     for (int[] row : known) {
-      checks.answers("promise 8: steps(" + row[0] + ", " + row[1] + ")", row[2], () -> mill.steps(row[0], row[1]));
+      checks.answers("promise 8: steps(" + row[0] + ", " + row[1] + ")", row[2], () -> mill().steps(row[0], row[1]));
     }
     int[][] wrong = {{10000, 1}, {-10000, 1}, {9999, 0}, {9999, 10000}, {0, 0}, {0, -1}, {MIN, 9999}, {MAX, 9999}};
     for (int[] row : wrong) {
       checks.refuses("promise 8: steps(" + row[0] + ", " + row[1] + ")", Checks.ARGUMENT,
-          () -> mill.steps(row[0], row[1]));
+          () -> mill().steps(row[0], row[1]));
     }
   }
 
   private static void steps() {
     for (int level : new int[] {1, 60}) {
-      checks.answers("promise 9: the level " + level, level == 1 ? 0 : 1, () -> mill.step(level, 9999, 9999, 0));
+      checks.answers("promise 9: the level " + level, level == 1 ? 0 : 1, () -> mill().step(level, 9999, 9999, 0));
       checks.answers("promise 9: the level " + level + " and -9999 / 1", level == 1 ? 0 : 1,
-          () -> mill.step(level, -9999, 1, 0));
+          () -> mill().step(level, -9999, 1, 0));
     }
     for (int level : new int[] {0, 61}) {
-      checks.refuses("promise 9: the level " + level, Checks.ARGUMENT, () -> mill.step(level, 1, 2, 0));
+      checks.refuses("promise 9: the level " + level, Checks.ARGUMENT, () -> mill().step(level, 1, 2, 0));
     }
     int[][] wrong = {{10000, 1}, {-10000, 1}, {1, 0}, {1, 10000}};
     for (int[] row : wrong) {
-      checks.refuses("promise 9: " + row[0] + " / " + row[1], Checks.ARGUMENT, () -> mill.step(7, row[0], row[1], 0));
+      checks.refuses("promise 9: " + row[0] + " / " + row[1], Checks.ARGUMENT, () -> mill().step(7, row[0], row[1], 0));
     }
     int[][] lasts = {{5, 1, 0}, {0, 7, 0}, {1, 2, 1}, {-1, 9999, 2}, {4181, 6765, 18}, {-2584, 6765, 18}};
     for (int[] row : lasts) {
       String name = "promise 9: the steps of " + row[0] + " / " + row[1];
-      checks.answers(name + ", the first", 1, () -> mill.step(59, row[0], row[1], 0));
-      checks.answers(name + ", the last", true, () -> mill.step(59, row[0], row[1], row[2]) >= 0);
-      checks.refuses(name + ", one more", Checks.BOUNDS, () -> mill.step(59, row[0], row[1], row[2] + 1));
-      checks.refuses(name + ", before the first", Checks.BOUNDS, () -> mill.step(59, row[0], row[1], -1));
+      checks.answers(name + ", the first", 1, () -> mill().step(59, row[0], row[1], 0));
+      checks.answers(name + ", the last", true, () -> mill().step(59, row[0], row[1], row[2]) >= 0);
+      checks.refuses(name + ", one more", Checks.BOUNDS, () -> mill().step(59, row[0], row[1], row[2] + 1));
+      checks.refuses(name + ", before the first", Checks.BOUNDS, () -> mill().step(59, row[0], row[1], -1));
     }
   }
 
@@ -197,32 +201,33 @@ final class EdgesTest {
   private static void signsOfSteps() {
     int[][] fractions = {{17, 12, 1, 0, 2, 1, 5, -2, 12, 5}, {-7, 5, 1, 0, 1, 1, 2, -1, 5, 2}};
     for (int[] row : fractions) {
-      checks.answers("promise 8: steps(" + row[0] + ", " + row[1] + ")", 4, () -> mill.steps(row[0], row[1]));
+      checks.answers("promise 8: steps(" + row[0] + ", " + row[1] + ")", 4, () -> mill().steps(row[0], row[1]));
       for (int i = 0; i < 4; i++) {
         for (int level : new int[] {1, 5, 7, 12, 60}) {
           int step = i;
           checks.answers("promise 9: step " + i + " of " + row[0] + " / " + row[1] + " at " + level,
-              mill.coset(level, row[2 + 2 * i], row[3 + 2 * i]), () -> mill.step(level, row[0], row[1], step));
+              mill().coset(level, row[2 + 2 * i], row[3 + 2 * i]), () -> mill().step(level, row[0], row[1], step));
         }
       }
     }
     // 1 / 5 and -1 / 5 behind a 2: only the sign is another one.
-    checks.answers("promise 9: the even one has the other sign", mill.coset(7, 5, 5), () -> mill.step(7, 17, 12, 2));
-    checks.answers("promise 9: the odd one has not", mill.coset(7, 5, 5), () -> mill.step(7, 17, 12, 3));
+    int due = mill().coset(7, 5, 5);
+    checks.answers("promise 9: the even one has the other sign", due, () -> mill().step(7, 17, 12, 2));
+    checks.answers("promise 9: the odd one has not", due, () -> mill().step(7, 17, 12, 3));
   }
 
   private static void discriminants() {
     int[][] known = {{-3, 1}, {-4, 1}, {-7, 1}, {-8, 1}, {-396, 6}, {-399, 16}, {-400, 4}};
     for (int[] row : known) {
-      checks.answers("promise 26: forms(" + row[0] + ")", row[1], () -> mill.forms(row[0]));
-      checks.answers("promise 27: formAt(" + row[0] + ", 0, a)", 1, () -> mill.formAt(row[0], 0, 'a'));
+      checks.answers("promise 26: forms(" + row[0] + ")", row[1], () -> mill().forms(row[0]));
+      checks.answers("promise 27: formAt(" + row[0] + ", 0, a)", 1, () -> mill().formAt(row[0], 0, 'a'));
     }
     for (int discriminant : new int[] {-2, -1, 0, 1, 4, -401, -403, -404, -5, -6, -9, -10, -397, -398, MIN, MAX}) {
-      checks.refuses("promise 26: forms(" + discriminant + ")", Checks.ARGUMENT, () -> mill.forms(discriminant));
+      checks.refuses("promise 26: forms(" + discriminant + ")", Checks.ARGUMENT, () -> mill().forms(discriminant));
       checks.refuses("promise 27: formAt(" + discriminant + ", 0, a)", Checks.ARGUMENT,
-          () -> mill.formAt(discriminant, 0, 'a'));
+          () -> mill().formAt(discriminant, 0, 'a'));
       checks.refuses("promise 28: theta(" + discriminant + ", 0)", Checks.ARGUMENT,
-          () -> mill.theta(discriminant, 0));
+          () -> mill().theta(discriminant, 0));
     }
   }
 
@@ -239,12 +244,12 @@ final class EdgesTest {
     };
     for (int[] row : all) {
       int discriminant = row[0];
-      checks.answers("promise 26: forms(" + discriminant + ")", (row.length - 1) / 3, () -> mill.forms(discriminant));
+      checks.answers("promise 26: forms(" + discriminant + ")", (row.length - 1) / 3, () -> mill().forms(discriminant));
       for (int i = 0; i < row.length - 1; i++) {
         int index = i / 3;
         char which = (char) ('a' + i % 3);
         checks.answers("promise 27: formAt(" + discriminant + ", " + index + ", " + which + ")", row[i + 1],
-            () -> mill.formAt(discriminant, index, which));
+            () -> mill().formAt(discriminant, index, which));
       }
     }
   }
@@ -254,15 +259,15 @@ final class EdgesTest {
     for (int[] row : counts) {
       for (char which : new char[] {'a', 'b', 'c'}) {
         checks.answers("promise 27: the last form of " + row[0] + ", " + which, true,
-            () -> Math.abs(mill.formAt(row[0], row[1] - 1, which)) >= 0);
+            () -> Math.abs(mill().formAt(row[0], row[1] - 1, which)) >= 0);
         for (int index : new int[] {-1, row[1], MIN, MAX}) {
           checks.refuses("promise 27: the form " + index + " of " + row[0], Checks.BOUNDS,
-              () -> mill.formAt(row[0], index, which));
+              () -> mill().formAt(row[0], index, which));
         }
       }
       for (char which : new char[] {'`', 'd', 'B', ' ', 0, 65535}) {
         checks.refuses("promise 27: the letter " + (int) which + " of " + row[0], Checks.ARGUMENT,
-            () -> mill.formAt(row[0], 0, which));
+            () -> mill().formAt(row[0], 0, which));
       }
     }
   }
@@ -309,10 +314,10 @@ final class EdgesTest {
       {36, 30}, {48, 40}, {64, 42}, {75, 28}, {396, 144}, {397, 0}, {398, 0}, {399, 192}, {400, 90}
     };
     for (int[] row : known) {
-      checks.answers("promise 29: weighed(" + row[0] + ")", row[1], () -> mill.weighed(row[0]));
+      checks.answers("promise 29: weighed(" + row[0] + ")", row[1], () -> mill().weighed(row[0]));
     }
     for (int n : new int[] {-1, 401, MIN, MAX}) {
-      checks.refuses("promise 29: weighed(" + n + ")", Checks.ARGUMENT, () -> mill.weighed(n));
+      checks.refuses("promise 29: weighed(" + n + ")", Checks.ARGUMENT, () -> mill().weighed(n));
     }
   }
 
@@ -327,8 +332,8 @@ final class EdgesTest {
     for (long[] row : known) {
       int weight = (int) row[0];
       int n = (int) row[1];
-      checks.answers("promise 30: trace(" + weight + ", " + n + ")", row[2], () -> mill.trace(weight, n));
-      checks.answers("promise 31: traceAnew(" + weight + ", " + n + ")", row[2], () -> mill.traceAnew(weight, n));
+      checks.answers("promise 30: trace(" + weight + ", " + n + ")", row[2], () -> mill().trace(weight, n));
+      checks.answers("promise 31: traceAnew(" + weight + ", " + n + ")", row[2], () -> mill().traceAnew(weight, n));
     }
     int[][] wrong = {
       {0, 1}, {1, 1}, {3, 1}, {11, 1}, {13, 1}, {25, 1}, {27, 1}, {28, 1}, {-2, 1}, {12, 0}, {12, 21}, {2, 0}, {26, 21},
@@ -336,9 +341,9 @@ final class EdgesTest {
     };
     for (int[] row : wrong) {
       checks.refuses("promise 30: trace(" + row[0] + ", " + row[1] + ")", Checks.ARGUMENT,
-          () -> mill.trace(row[0], row[1]));
+          () -> mill().trace(row[0], row[1]));
       checks.refuses("promise 31: traceAnew(" + row[0] + ", " + row[1] + ")", Checks.ARGUMENT,
-          () -> mill.traceAnew(row[0], row[1]));
+          () -> mill().traceAnew(row[0], row[1]));
     }
   }
 

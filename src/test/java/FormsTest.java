@@ -2,6 +2,7 @@
 final class FormsTest {
   private static final Checks checks = new Checks();
   private static final PlainMill plain = new PlainMill();
+  private static final Supply supply = new Supply();
 
   public static void main(String[] args) {
     knownForms();
@@ -38,17 +39,17 @@ final class FormsTest {
   }
 
   private static void allDiscriminants() {
-    Heckeworks mill = new Heckeworks();
     for (int discriminant = -405; discriminant <= 5; discriminant++) {
       int of = discriminant;
-      checks.answers("promise 26: forms(" + of + ")", Checks.outcome(() -> plain.forms(of)), () -> mill.forms(of));
+      checks.answers("promise 26: forms(" + of + ")", Checks.outcome(() -> plain.forms(of)),
+          () -> supply.mill().forms(of));
       StringBuilder got = new StringBuilder();
       StringBuilder due = new StringBuilder();
       for (int i = -1; i < 21; i++) {
         for (char letter = 'a'; letter <= 'c'; letter++) {
           int index = i;
           char which = letter;
-          got.append(Checks.outcome(() -> mill.formAt(of, index, which))).append(' ');
+          got.append(Checks.outcome(() -> supply.mill().formAt(of, index, which))).append(' ');
           due.append(Checks.outcome(() -> plain.formAt(of, index, which))).append(' ');
         }
       }

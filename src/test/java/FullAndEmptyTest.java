@@ -86,7 +86,28 @@ final class FullAndEmptyTest {
       checks.answers("promise 36: so many", i + 1, mill::series);
       checks.answers("promise 19: the series " + i, weightInTurn(due), () -> mill.weight(due));
     }
-    String before = Mills.shown(mill);
+    seventeenth(mill);
+    checks.same("promises 10 to 28: nothing has changed", Mills.shown(FullAndEmptyTest::sixteenTriedAgain),
+        Mills.shown(FullAndEmptyTest::sixteen));
+    checks.answers("promise 36: 16 series", 16, mill::series);
+    checks.answers("promise 42: 16 series", true, mill::isSound);
+  }
+
+  private static Heckeworks sixteen() {
+    Heckeworks mill = new Heckeworks();
+    for (int i = 0; i < 16; i++) {
+      mill.eisenstein(weightInTurn(i));
+    }
+    return mill;
+  }
+
+  private static Heckeworks sixteenTriedAgain() {
+    Heckeworks mill = sixteen();
+    seventeenth(mill);
+    return mill;
+  }
+
+  private static void seventeenth(Heckeworks mill) {
     for (int i = 0; i < 3; i++) {
       checks.refuses("promise 10: a 17th", Checks.STATE, () -> mill.eisenstein(4));
       checks.refuses("promise 11: a 17th", Checks.STATE, mill::discriminant);
@@ -97,9 +118,6 @@ final class FullAndEmptyTest {
       checks.refuses("promise 28: a 17th", Checks.STATE, () -> mill.theta(-60, 1));
       checks.refuses("promise 19: none of it", Checks.BOUNDS, () -> mill.weight(16));
     }
-    checks.same("promises 10 to 28: nothing has changed", Mills.shown(mill), before);
-    checks.answers("promise 36: 16 series", 16, mill::series);
-    checks.answers("promise 42: 16 series", true, mill::isSound);
   }
 
   /** The weights of Eisenstein's in turn. */

@@ -3,7 +3,7 @@ final class GroupsTest {
   private static final int[] WRONG_LEVELS = {0, -1, 61, 1000, Integer.MIN_VALUE, Integer.MAX_VALUE};
 
   private static final Checks checks = new Checks();
-  private static final Heckeworks mill = new Heckeworks();
+  private static final Supply supply = new Supply();
   private static final PlainMill plain = new PlainMill();
 
   public static void main(String[] args) {
@@ -17,6 +17,10 @@ final class GroupsTest {
     checks.finish();
   }
 
+  private static Heckeworks mill() {
+    return supply.mill();
+  }
+
   /** Level, index, cusps, genus, from the tables of the groups. */
   private static void knownGroups() {
     int[][] known = {
@@ -27,14 +31,14 @@ final class GroupsTest {
     };
     for (int[] row : known) {
       int level = row[0];
-      checks.answers("promise 2: index(" + level + ")", row[1], () -> mill.index(level));
-      checks.answers("promise 4: cusps(" + level + ")", row[2], () -> mill.cusps(level));
-      checks.answers("promise 6: genus(" + level + ")", row[3], () -> mill.genus(level));
-      checks.answers("promise 7: genusAnew(" + level + ")", row[3], () -> mill.genusAnew(level));
+      checks.answers("promise 2: index(" + level + ")", row[1], () -> mill().index(level));
+      checks.answers("promise 4: cusps(" + level + ")", row[2], () -> mill().cusps(level));
+      checks.answers("promise 6: genus(" + level + ")", row[3], () -> mill().genus(level));
+      checks.answers("promise 7: genusAnew(" + level + ")", row[3], () -> mill().genusAnew(level));
       double mean = (double) row[1] / (double) row[2];
-      checks.answers("promise 39: meanWidth(" + level + ")", mean, () -> mill.meanWidth(level));
+      checks.answers("promise 39: meanWidth(" + level + ")", mean, () -> mill().meanWidth(level));
       checks.answers("promise 40: widthBits(" + level + ")", Double.doubleToLongBits(mean),
-          () -> mill.widthBits(level));
+          () -> mill().widthBits(level));
     }
   }
 
@@ -46,7 +50,7 @@ final class GroupsTest {
     };
     for (int[] row : known) {
       checks.answers("promise 3: coset(" + row[0] + ", " + row[1] + ", " + row[2] + ")",
-          row[0] == 60 ? plain.coset(60, row[1], row[2]) : row[3], () -> mill.coset(row[0], row[1], row[2]));
+          row[0] == 60 ? plain.coset(60, row[1], row[2]) : row[3], () -> mill().coset(row[0], row[1], row[2]));
     }
   }
 
@@ -55,7 +59,7 @@ final class GroupsTest {
     for (int[] row : known) {
       for (int cusp = 0; cusp < row.length - 1; cusp++) {
         int at = cusp;
-        checks.answers("promise 5: width(" + row[0] + ", " + cusp + ")", row[cusp + 1], () -> mill.width(row[0], at));
+        checks.answers("promise 5: width(" + row[0] + ", " + cusp + ")", row[cusp + 1], () -> mill().width(row[0], at));
       }
     }
   }
@@ -63,19 +67,19 @@ final class GroupsTest {
   private static void allLevels() {
     for (int n = 60; n >= 1; n--) {
       int level = n;
-      checks.answers("promise 2: index " + n, plain.index(n), () -> mill.index(level));
-      checks.answers("promise 4: cusps " + n, plain.cusps(n), () -> mill.cusps(level));
-      checks.answers("promise 6: genus " + n, plain.genus(n), () -> mill.genus(level));
-      checks.answers("promise 7: genusAnew " + n, plain.genus(n), () -> mill.genusAnew(level));
-      checks.answers("promise 39: meanWidth " + n, plain.meanWidth(n), () -> mill.meanWidth(level));
-      checks.answers("promise 40: widthBits " + n, plain.widthBits(n), () -> mill.widthBits(level));
+      checks.answers("promise 2: index " + n, plain.index(n), () -> mill().index(level));
+      checks.answers("promise 4: cusps " + n, plain.cusps(n), () -> mill().cusps(level));
+      checks.answers("promise 6: genus " + n, plain.genus(n), () -> mill().genus(level));
+      checks.answers("promise 7: genusAnew " + n, plain.genus(n), () -> mill().genusAnew(level));
+      checks.answers("promise 39: meanWidth " + n, plain.meanWidth(n), () -> mill().meanWidth(level));
+      checks.answers("promise 40: widthBits " + n, plain.widthBits(n), () -> mill().widthBits(level));
       int total = 0;
       for (int cusp = 0; cusp < plain.cusps(n); cusp++) {
         int at = cusp;
-        checks.answers("promise 5: width " + n + " " + cusp, plain.width(n, cusp), () -> mill.width(level, at));
-        total += mill.width(level, at);
+        checks.answers("promise 5: width " + n + " " + cusp, plain.width(n, cusp), () -> mill().width(level, at));
+        total += mill().width(level, at);
       }
-      checks.same("promise 5: widths of " + n + " make up the index", total, mill.index(level));
+      checks.same("promise 5: widths of " + n + " make up the index", total, mill().index(level));
     }
   }
 
@@ -87,7 +91,7 @@ final class GroupsTest {
         for (int d = -1; d < level; d++) {
           int one = c;
           int two = d;
-          got.append(Checks.outcome(() -> mill.coset(level, one, two))).append(' ');
+          got.append(Checks.outcome(() -> mill().coset(level, one, two))).append(' ');
           due.append(Checks.outcome(() -> plain.coset(level, one, two))).append(' ');
         }
       }
@@ -97,14 +101,14 @@ final class GroupsTest {
 
   private static void wrongLevels() {
     for (int level : WRONG_LEVELS) {
-      checks.refuses("promise 2: index(" + level + ")", Checks.ARGUMENT, () -> mill.index(level));
-      checks.refuses("promise 3: coset(" + level + ", 2, 2)", Checks.ARGUMENT, () -> mill.coset(level, 2, 2));
-      checks.refuses("promise 4: cusps(" + level + ")", Checks.ARGUMENT, () -> mill.cusps(level));
-      checks.refuses("promise 5: width(" + level + ", -1)", Checks.ARGUMENT, () -> mill.width(level, -1));
-      checks.refuses("promise 6: genus(" + level + ")", Checks.ARGUMENT, () -> mill.genus(level));
-      checks.refuses("promise 7: genusAnew(" + level + ")", Checks.ARGUMENT, () -> mill.genusAnew(level));
-      checks.refuses("promise 39: meanWidth(" + level + ")", Checks.ARGUMENT, () -> mill.meanWidth(level));
-      checks.refuses("promise 40: widthBits(" + level + ")", Checks.ARGUMENT, () -> mill.widthBits(level));
+      checks.refuses("promise 2: index(" + level + ")", Checks.ARGUMENT, () -> mill().index(level));
+      checks.refuses("promise 3: coset(" + level + ", 2, 2)", Checks.ARGUMENT, () -> mill().coset(level, 2, 2));
+      checks.refuses("promise 4: cusps(" + level + ")", Checks.ARGUMENT, () -> mill().cusps(level));
+      checks.refuses("promise 5: width(" + level + ", -1)", Checks.ARGUMENT, () -> mill().width(level, -1));
+      checks.refuses("promise 6: genus(" + level + ")", Checks.ARGUMENT, () -> mill().genus(level));
+      checks.refuses("promise 7: genusAnew(" + level + ")", Checks.ARGUMENT, () -> mill().genusAnew(level));
+      checks.refuses("promise 39: meanWidth(" + level + ")", Checks.ARGUMENT, () -> mill().meanWidth(level));
+      checks.refuses("promise 40: widthBits(" + level + ")", Checks.ARGUMENT, () -> mill().widthBits(level));
     }
   }
 
@@ -112,12 +116,12 @@ final class GroupsTest {
     int[][] pairs = {{11, 0, 0}, {11, 22, 11}, {12, 2, 4}, {12, 3, 9}, {4, 2, 2}, {60, 30, 15}, {2, -2, 4}};
     for (int[] pair : pairs) {
       checks.refuses("promise 3: coset(" + pair[0] + ", " + pair[1] + ", " + pair[2] + ")", Checks.UNSUPPORTED,
-          () -> mill.coset(pair[0], pair[1], pair[2]));
+          () -> mill().coset(pair[0], pair[1], pair[2]));
     }
     int[][] cusps = {{4, 3}, {4, -1}, {1, 1}, {36, 12}, {11, Integer.MIN_VALUE}, {11, Integer.MAX_VALUE}};
     for (int[] cusp : cusps) {
       checks.refuses("promise 5: width(" + cusp[0] + ", " + cusp[1] + ")", Checks.BOUNDS,
-          () -> mill.width(cusp[0], cusp[1]));
+          () -> mill().width(cusp[0], cusp[1]));
     }
   }
 }

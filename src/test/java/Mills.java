@@ -1,4 +1,5 @@
 import java.util.Arrays;
+import java.util.function.Supplier;
 
 /** Mills to begin with, and all that a mill shows, as a text. */
 final class Mills {
@@ -82,31 +83,45 @@ final class Mills {
     return found;
   }
 
-  /** All that calls tell which change nothing. */
-  static String shown(Heckeworks mill) {
+  /**
+   * All that calls tell which change nothing, of a mill that can be made again: each part of it is asked of a new one,
+   * since a mill answers 512 calls alone.
+   */
+  static String shown(Supplier<Heckeworks> begin) {
     StringBuilder text = new StringBuilder();
-    add(text, mill.series(), mill.allCoefficients(), mill.toldBits(), mill.isWhole(), mill.isSound(),
-        Checks.outcome(mill::toldShare));
-    for (int i = 0; i < mill.series(); i++) {
-      add(text, mill.weight(i), mill.level(i), Arrays.toString(row(mill, i)));
-      for (int other = 0; other < mill.series(); other++) {
-        addPair(text, mill, i, other);
-      }
-    }
-    for (int i = 0; i < 6; i++) {
-      addCurve(text, mill, i);
+    for (int part = 0; part < 7; part++) {
+      showPart(text, begin.get(), part);
     }
     return text.toString();
   }
 
   /** All that is shown, what further calls answer that do change something, and what is shown then. */
-  static String shownLater(Heckeworks mill) {
-    StringBuilder text = new StringBuilder(shown(mill));
+  static String shownLater(Supplier<Heckeworks> begin) {
+    return shown(begin) + goFurther(begin.get()) + shown(() -> {
+      Heckeworks mill = begin.get();
+      goFurther(mill);
+      return mill;
+    });
+  }
+
+  private static String goFurther(Heckeworks mill) {
+    StringBuilder text = new StringBuilder();
     add(text, Checks.outcome(mill::eta), Checks.outcome(() -> mill.factor(1, 24)), mill.isWhole(),
         Checks.outcome(mill::eta), Checks.outcome(() -> mill.curve(1, 0, 1, 4, -6)), mill.index(11), mill.genus(30),
         mill.forms(-23), Checks.outcome(() -> mill.theta(-23, 1)), Checks.outcome(() -> mill.product(0, 0)),
         Checks.outcome(mill::discriminant));
-    return text.append(shown(mill)).toString();
+    return text.toString();
+  }
+
+  private static void showPart(StringBuilder text, Heckeworks mill, int part) {
+    int count = mill.series();
+    if (part == 6) {
+      addCurves(text, mill, count);
+    } else if (part >= 4) {
+      addPairs(text, mill, count, 8 * (part - 4));
+    } else {
+      addSeries(text, mill, count, 4 * part);
+    }
   }
 
   private static void add(StringBuilder text, Object... answers) {
@@ -115,18 +130,35 @@ final class Mills {
     }
   }
 
-  private static void addPair(StringBuilder text, Heckeworks mill, int one, int other) {
-    add(text, Checks.outcome(() -> mill.bound(one, other)), Checks.outcome(() -> mill.isEqual(one, other)),
-        Checks.outcome(() -> mill.isCongruent(one, other, 5)));
+  private static void addSeries(StringBuilder text, Heckeworks mill, int count, int from) {
+    add(text, count, mill.allCoefficients(), mill.toldBits(), mill.isWhole(), mill.isSound(),
+        Checks.outcome(mill::toldShare));
+    for (int i = from; i < Math.min(from + 4, count); i++) {
+      add(text, mill.weight(i), mill.level(i), Arrays.toString(row(mill, i)));
+    }
   }
 
-  private static void addCurve(StringBuilder text, Heckeworks mill, int curve) {
-    for (int p : PRIMES) {
-      add(text, Checks.outcome(() -> mill.points(curve, p)), Checks.outcome(() -> mill.isGood(curve, p)));
+  private static void addPairs(StringBuilder text, Heckeworks mill, int count, int from) {
+    for (int i = from; i < Math.min(from + 8, count); i++) {
+      for (int j = 0; j < count; j++) {
+        int one = i;
+        int other = j;
+        add(text, Checks.outcome(() -> mill.bound(one, other)), Checks.outcome(() -> mill.isEqual(one, other)),
+            Checks.outcome(() -> mill.isCongruent(one, other, 5)));
+      }
     }
-    for (int i = 0; i < mill.series(); i++) {
-      int series = i;
-      add(text, Checks.outcome(() -> mill.parts(curve, series)));
+  }
+
+  private static void addCurves(StringBuilder text, Heckeworks mill, int count) {
+    for (int i = 0; i < 6; i++) {
+      int curve = i;
+      for (int p : PRIMES) {
+        add(text, Checks.outcome(() -> mill.points(curve, p)), Checks.outcome(() -> mill.isGood(curve, p)));
+      }
+      for (int j = 0; j < count; j++) {
+        int series = j;
+        add(text, Checks.outcome(() -> mill.parts(curve, series)));
+      }
     }
   }
 }

@@ -37,7 +37,14 @@ final class RefusalsTest {
     Heckeworks mill = begin.get();
     checks.refuses(what, due, () -> call.apply(mill));
     checks.refuses(what + ", once more", due, () -> call.apply(mill));
-    checks.same(what + " changes nothing", Mills.shownLater(mill), Mills.shownLater(begin.get()));
+    checks.same(what + " changes nothing", Mills.shownLater(() -> refusing(begin, call)), Mills.shownLater(begin));
+  }
+
+  private static Heckeworks refusing(Supplier<Heckeworks> begin, Function<Heckeworks, Object> call) {
+    Heckeworks mill = begin.get();
+    Checks.outcome(() -> call.apply(mill));
+    Checks.outcome(() -> call.apply(mill));
+    return mill;
   }
 
   private static void argument(String what, Supplier<Heckeworks> begin, Function<Heckeworks, Object> call) {

@@ -1,70 +1,149 @@
 import java.lang.reflect.InvocationTargetException;
 import java.lang.reflect.Method;
+import java.lang.reflect.Modifier;
 import java.util.ArrayList;
 import java.util.Arrays;
+import java.util.Collections;
 import java.util.Comparator;
+import java.util.HashMap;
+import java.util.HashSet;
 import java.util.List;
+import java.util.Map;
 import java.util.Random;
+import java.util.Set;
 
-/** Long runs of calls, chosen by chance from fixed seeds, on Heckeworks and on PlainMill: all answers are the same. */
+/**
+ * Runs of 512 calls of all methods on one object, chosen by chance from fixed seeds: every answer is that of PlainMill.
+ * At the end it is told whether all methods have answered, and thrown each exception that they name.
+ */
 final class RunsTest {
-  private static final int RUNS = 60;
-  private static final int CALLS = 440;
-  private static final int[] ODD_INTS = {
-    Integer.MIN_VALUE, Integer.MIN_VALUE + 1, Integer.MAX_VALUE, -1, 0, 1, 61, 64, 65536, -400, 10000, -10000, 1000
-  };
+  private static final int RUNS = 96;
+  private static final int CALLS = 512;
+  private static final Set<String> MAKERS =
+      Set.of("eisenstein", "discriminant", "eta", "product", "sum", "raise", "operator", "theta", "curve");
+  private static final Checks checks = new Checks();
+  private static final List<Method> METHODS = methods();
+  /** How often a method has answered so, by its name and the answer, or what kind of answer it is. */
+  private static final Map<String, Integer> SEEN = new HashMap<>();
 
   private final Random chance;
+  private final Choices choices;
   private final Heckeworks mill = new Heckeworks();
   private final PlainMill plain = new PlainMill();
-  private final Checks checks;
+  private final List<String> told = new ArrayList<>();
+  private final Set<String> called = new HashSet<>();
   private final String name;
-  private final boolean isWild;
+  private final boolean isSlow;
+  private final boolean isWatchful;
 
-  private RunsTest(int seed, Checks checks) {
-    this.chance = new Random(seed);
-    this.checks = checks;
-    this.name = "run " + seed;
-    this.isWild = seed % 4 == 3;
+  private RunsTest(int seed) {
+    chance = new Random(seed);
+    choices = new Choices(chance, plain, seed % 4 == 3, seed % 2 == 0);
+    name = "run " + seed;
+    isSlow = seed % 3 == 1;
+    isWatchful = seed % 3 == 2;
   }
 
   public static void main(String[] args) {
-    Checks checks = new Checks();
     for (int seed = 0; seed < RUNS; seed++) {
-      new RunsTest(seed, checks).run();
+      new RunsTest(seed).run();
     }
+    coverage();
     checks.finish();
   }
 
-  private void run() {
-    List<Method> methods = new ArrayList<>(Arrays.asList(Heckeworks.class.getDeclaredMethods()));
-    methods.removeIf(method -> !java.lang.reflect.Modifier.isPublic(method.getModifiers()));
-    methods.sort(Comparator.comparing(Method::getName));
-    List<String> told = new ArrayList<>();
-    int wrong = 0;
-    for (int i = 0; i < CALLS && wrong == 0; i++) {
-      Method method = methods.get(chance.nextInt(methods.size()));
-      Object[] arguments = isOdd(method.getName()) ? odd(method) : usual(method);
-      told.add(method.getName() + Arrays.toString(arguments));
-      wrong += compare(method, arguments, told) ? 0 : 1;
+  private static List<Method> methods() {
+    List<Method> found = new ArrayList<>(Arrays.asList(Heckeworks.class.getDeclaredMethods()));
+    found.removeIf(method -> !Modifier.isPublic(method.getModifiers()));
+    found.sort(Comparator.comparing(Method::getName));
+    return found;
+  }
+
+  private static Method method(String name) {
+    for (Method method : METHODS) {
+      if (method.getName().equals(name)) {
+        return method;
+      }
     }
-    checks.same(name + ", the first series that is not the same", firstDifference(), -1);
+    throw new AssertionError(name);
   }
 
-  private boolean isOdd(String method) {
-    return isWild ? chance.nextInt(3) == 0 : chance.nextInt(25) == 0;
+  /** In rounds of all methods, each time in another order, so that every run calls each of them. */
+  private void run() {
+    boolean isRight = true;
+    for (int round = 0; told.size() < CALLS && isRight; round++) {
+      List<Method> order = new ArrayList<>(METHODS);
+      Collections.shuffle(order, chance);
+      boolean isWithoutMakers = isSlow && round % 4 != 1;
+      for (int i = 0; i < order.size() && told.size() < CALLS && isRight; i++) {
+        Method method = order.get(i);
+        boolean isMaker = MAKERS.contains(method.getName());
+        if (!isMaker || !isWithoutMakers) {
+          isRight = isMaker && isWatchful ? makeAndWatch(method) : call(method);
+        }
+        isRight = isRight && (!method.getName().equals("factor") || endPlan());
+      }
+    }
+    checks.same(name + ", its calls", told.size(), CALLS);
+    checks.same(name + ", the methods that are called", called.size(), METHODS.size());
   }
 
-  private boolean compare(Method method, Object[] arguments, List<String> told) {
+  /** The other factors of a planned quotient, and mostly its series. */
+  private boolean endPlan() {
+    boolean isRight = true;
+    // An odd factor amid them may be in the way of the others.
+    for (int i = 0; i < 8 && choices.isAmidPlan() && told.size() < CALLS && isRight; i++) {
+      isRight = call(method("factor"));
+    }
+    boolean isToBeMade = choices.isPlanTold() && told.size() < CALLS && chance.nextInt(3) != 0;
+    return isRight && (!isToBeMade || call(method("eta")));
+  }
+
+  private boolean call(Method method) {
+    Object[] arguments = choices.argumentsOf(method);
+    return call(method, arguments);
+  }
+
+  /** Beside the call itself, what a new series is told to be; a watchful run has 16 soon. */
+  private boolean makeAndWatch(Method method) {
+    int before = plain.series();
+    boolean isRight = call(method);
+    if (plain.series() == before || told.size() > CALLS - 30) {
+      return isRight;
+    }
+    isRight &= call(method("weight"), before) && call(method("level"), before) && call(method("precision"), before);
+    int precision = plain.precision(before);
+    for (int i = 0; i < 12; i++) {
+      isRight &= call(method("coefficient"), before, chance.nextInt(precision));
+    }
+    isRight &= call(method("coefficient"), before, precision - 1) && call(method("coefficient"), before, precision);
+    return isRight && call(method("allCoefficients"));
+  }
+
+  private boolean call(Method method, Object... arguments) {
+    told.add(method.getName() + Arrays.toString(arguments));
+    called.add(method.getName());
     String got = answer(mill, method, arguments);
-    String due;
+    String due = answer(plain, onPlain(method), arguments);
+    boolean isSame = got.equals(due);
+    checks.same(name + " " + (isSame ? "" : String.join(" ", told)), got, due);
+    choices.hear(method.getName(), arguments, due);
+    SEEN.merge(method.getName() + " " + kindOf(method, due), 1, Integer::sum);
+    return isSame;
+  }
+
+  private static String kindOf(Method method, String answer) {
+    boolean isKind = answer.startsWith("throws ") || method.getReturnType() == boolean.class;
+    boolean isNone = method.getName().equals("parts") && answer.equals("0");
+    return isKind ? answer : isNone ? "none" : "answers";
+  }
+
+  private static Method onPlain(Method method) {
     try {
-      due = answer(plain, PlainMill.class.getMethod(method.getName(), method.getParameterTypes()), arguments);
+      return PlainMill.class.getMethod(method.getName(), method.getParameterTypes());
     } catch (NoSuchMethodException missing) {
       throw new AssertionError(missing);
     }
-    checks.same(name + " " + (got.equals(due) ? "" : String.join(" ", told)), got, due);
-    return got.equals(due);
   }
 
   private static String answer(Object target, Method method, Object[] arguments) {
@@ -80,127 +159,29 @@ final class RunsTest {
     }
   }
 
-  /** The first series in which the two are not the same; -1 if they are in none. */
-  private int firstDifference() {
-    for (int i = 0; i < Math.max(mill.series(), plain.series()); i++) {
-      boolean isSame = i < mill.series() && i < plain.series()
-          && mill.weight(i) == plain.weight(i)
-          && mill.level(i) == plain.level(i)
-          && mill.precision(i) == plain.precision(i);
-      for (int n = 0; isSame && n < plain.precision(i); n++) {
-        isSame = mill.coefficient(i, n) == plain.coefficient(i, n);
-      }
-      if (!isSame) {
-        return i;
-      }
-    }
-    return -1;
-  }
-
-  private int from(int least, int most) {
-    return least + chance.nextInt(most - least + 1);
-  }
-
-  private Object[] odd(Method method) {
-    Object[] arguments = usual(method);
-    if (arguments.length > 0) {
-      int at = chance.nextInt(arguments.length);
-      if (arguments[at] instanceof Integer) {
-        arguments[at] = chance.nextBoolean() ? ODD_INTS[chance.nextInt(ODD_INTS.length)] : from(-70, 130);
+  /** What of all that the face names the runs have seen; isSound is never false. */
+  private static void coverage() {
+    for (Method method : METHODS) {
+      if (method.getReturnType() == boolean.class) {
+        seen(method, "true");
+        if (!method.getName().equals("isSound")) {
+          seen(method, "false");
+        }
       } else {
-        arguments[at] = (char) from(0, 255);
+        seen(method, "answers");
+      }
+      for (Class<?> type : method.getExceptionTypes()) {
+        seen(method, "throws " + type.getName());
       }
     }
-    return arguments;
+    seen(method("parts"), "none");
   }
 
-  private int someSeries() {
-    return from(0, Math.max(0, Math.min(15, plain.series())));
-  }
-
-  /** Mostly two series of one weight, so that they can be compared. */
-  private Object[] somePair(int further, int number) {
-    int one = someSeries();
-    int two = someSeries();
-    for (int i = 0; i < 9 && one < plain.series() && two < plain.series(); i++) {
-      two = plain.weight(one) == plain.weight(two) ? two : someSeries();
+  private static void seen(Method method, String answer) {
+    int times = SEEN.getOrDefault(method.getName() + " " + answer, 0);
+    checks.same("the runs have seen: " + method.getName() + " " + answer, times > 0, true);
+    if (System.getProperty("tell") != null) {
+      System.out.println(method.getName() + " " + answer + ": " + times);
     }
-    return further == 0 ? new Object[] {one, two} : new Object[] {one, two, number};
-  }
-
-  private int someDiscriminant() {
-    return -4 * from(1, chance.nextBoolean() ? 15 : 100) + from(0, 1);
-  }
-
-  private int somePrime() {
-    int[] primes = {2, 3, 5, 7, 11, 13, 37, 61, 89, 97};
-    return primes[chance.nextInt(primes.length)];
-  }
-
-  private Object[] usual(Method method) {
-    switch (method.getName()) {
-      case "index": case "cusps": case "genus": case "genusAnew": case "meanWidth": case "widthBits":
-        return new Object[] {from(1, 60)};
-      case "coset":
-        return new Object[] {from(1, 60), from(-99, 99), from(-99, 99)};
-      case "width":
-        return new Object[] {from(1, 60), from(0, 8)};
-      case "steps":
-        return new Object[] {from(-9999, 9999), from(1, 9999)};
-      case "step":
-        return new Object[] {from(1, 60), from(-9999, 9999), from(1, 9999), from(0, 9)};
-      case "eisenstein":
-        return new Object[] {from(2, 7) * 2};
-      case "factor":
-        return someFactor();
-      case "product":
-        return new Object[] {someSeries(), someSeries()};
-      case "bound": case "isEqual":
-        return somePair(0, 0);
-      case "sum":
-        return somePair(1, chance.nextBoolean() ? from(-9, 9) : chance.nextInt());
-      case "raise":
-        return new Object[] {someSeries(), from(1, 6)};
-      case "operator":
-        return new Object[] {someSeries(), from(1, 13)};
-      case "coefficient":
-        return new Object[] {someSeries(), from(0, 63)};
-      case "isCongruent":
-        return somePair(1, chance.nextBoolean() ? from(2, 9) : from(2, 9999));
-      default:
-        return usualBehind(method);
-    }
-  }
-
-  private Object[] usualBehind(Method method) {
-    switch (method.getName()) {
-      case "weight": case "level": case "precision":
-        return new Object[] {someSeries()};
-      case "forms":
-        return new Object[] {someDiscriminant()};
-      case "formAt":
-        return new Object[] {someDiscriminant(), from(0, 3), (char) from('a', 'c')};
-      case "theta":
-        return new Object[] {someDiscriminant(), from(0, 2)};
-      case "weighed":
-        return new Object[] {from(0, 400)};
-      case "trace": case "traceAnew":
-        return new Object[] {2 * from(1, 13), from(1, 20)};
-      case "curve":
-        return new Object[] {from(-3, 3), from(-9, 9), from(-3, 3), from(-99, 99), from(-999, 999)};
-      case "points": case "isGood":
-        return new Object[] {from(0, 5), somePrime()};
-      case "parts":
-        return new Object[] {from(0, 5), someSeries()};
-      default:
-        return new Object[0];
-    }
-  }
-
-  /** Small numbers and powers of 24, so that quotients are often such as can be made. */
-  private Object[] someFactor() {
-    int[] numbers = {1, 2, 3, 4, 6, 12, 5, 10, 24, 30};
-    int power = chance.nextBoolean() ? from(-24, 24) : 24 / from(1, 3) * (chance.nextInt(3) == 0 ? -1 : 1);
-    return new Object[] {numbers[chance.nextInt(numbers.length)], power};
   }
 }

@@ -18,15 +18,15 @@ final class SeriesTest {
   }
 
   private static long[] row(Heckeworks mill, int series) {
-    long[] found = new long[mill.precision(series)];
+    return firsts(mill, series, mill.precision(series));
+  }
+
+  private static long[] firsts(Heckeworks mill, int series, int count) {
+    long[] found = new long[count];
     for (int i = 0; i < found.length; i++) {
       found[i] = mill.coefficient(series, i);
     }
     return found;
-  }
-
-  private static long[] firsts(Heckeworks mill, int series, int count) {
-    return java.util.Arrays.copyOf(row(mill, series), count);
   }
 
   private static void described(String what, Heckeworks mill, int series, int weight, int level, int precision) {
@@ -35,14 +35,9 @@ final class SeriesTest {
     checks.answers(what + ", precision", precision, () -> mill.precision(series));
   }
 
-  /** How many series there are and what they are told; a call that throws must leave this as it is. */
+  /** How many series there are and what they make up; RefusalsTest compares all of them. */
   private static String state(Heckeworks mill) {
-    StringBuilder text = new StringBuilder();
-    for (int i = 0; i < mill.series(); i++) {
-      text.append(mill.weight(i)).append(' ').append(mill.level(i)).append(' ');
-      text.append(java.util.Arrays.toString(row(mill, i)));
-    }
-    return text.toString();
+    return mill.series() + " " + mill.allCoefficients() + " " + mill.toldBits();
   }
 
   private static void refusesAndKeeps(

@@ -1,7 +1,7 @@
 /** Promises 30 and 31. */
 final class TracesTest {
   private static final Checks checks = new Checks();
-  private static final Heckeworks mill = new Heckeworks();
+  private static final Supply supply = new Supply();
   private static final PlainMill plain = new PlainMill();
 
   public static void main(String[] args) {
@@ -9,6 +9,10 @@ final class TracesTest {
     all();
     wrong();
     checks.finish();
+  }
+
+  private static Heckeworks mill() {
+    return supply.mill();
   }
 
   private static void known() {
@@ -20,8 +24,8 @@ final class TracesTest {
     for (long[] row : known) {
       int weight = (int) row[0];
       int n = (int) row[1];
-      checks.answers("promise 30: trace(" + weight + ", " + n + ")", row[2], () -> mill.trace(weight, n));
-      checks.answers("promise 31: traceAnew(" + weight + ", " + n + ")", row[2], () -> mill.traceAnew(weight, n));
+      checks.answers("promise 30: trace(" + weight + ", " + n + ")", row[2], () -> mill().trace(weight, n));
+      checks.answers("promise 31: traceAnew(" + weight + ", " + n + ")", row[2], () -> mill().traceAnew(weight, n));
     }
   }
 
@@ -30,11 +34,11 @@ final class TracesTest {
       for (int i = 1; i <= 20; i++) {
         int weight = k;
         int n = i;
-        checks.answers("promise 30: trace(" + k + ", " + n + ")", plain.trace(k, n), () -> mill.trace(weight, n));
+        checks.answers("promise 30: trace(" + k + ", " + n + ")", plain.trace(k, n), () -> mill().trace(weight, n));
         checks.answers("promise 31: traceAnew(" + k + ", " + n + ")", plain.traceAnew(k, n),
-            () -> mill.traceAnew(weight, n));
-        checks.answers("promise 31: the same as promise 30, " + k + ", " + n, mill.trace(weight, n),
-            () -> mill.traceAnew(weight, n));
+            () -> mill().traceAnew(weight, n));
+        checks.answers("promise 31: the same as promise 30, " + k + ", " + n, mill().trace(weight, n),
+            () -> mill().traceAnew(weight, n));
       }
     }
   }
@@ -46,9 +50,9 @@ final class TracesTest {
     };
     for (int[] row : wrong) {
       checks.refuses("promise 30: trace(" + row[0] + ", " + row[1] + ")", Checks.ARGUMENT,
-          () -> mill.trace(row[0], row[1]));
+          () -> mill().trace(row[0], row[1]));
       checks.refuses("promise 31: traceAnew(" + row[0] + ", " + row[1] + ")", Checks.ARGUMENT,
-          () -> mill.traceAnew(row[0], row[1]));
+          () -> mill().traceAnew(row[0], row[1]));
     }
   }
 }
