@@ -6,11 +6,14 @@ import java.lang.reflect.Constructor;
 import java.lang.reflect.Field;
 import java.lang.reflect.Method;
 import java.lang.reflect.Modifier;
+import java.nio.file.Files;
+import java.nio.file.Path;
 import java.util.ArrayList;
 import java.util.Arrays;
 import java.util.List;
 import java.util.Set;
 import java.util.TreeSet;
+import java.util.regex.Pattern;
 
 /** The face of the document, the rules of LANGUAGE.md that a class file shows, and the room that calls take. */
 final class RulesTest {
@@ -72,12 +75,18 @@ final class RulesTest {
       "java/lang/UnsupportedOperationException.<init>(Ljava/lang/String;)V",
       "java/util/NoSuchElementException.<init>(Ljava/lang/String;)V");
 
+  private static final Pattern NOT_THERE = Pattern.compile(
+      "\\b(catch|try|finally|assert|synchronized|volatile|native|var|record|package|protected)\\b|->|::|@|\\$");
+  private static final Pattern METHOD =
+      Pattern.compile("  (  )?(public |private |static |void |int |long |boolean |double )[^=;]*\\([^=;]*");
+
   private static final Checks checks = new Checks();
 
   public static void main(String[] args) throws IOException {
     face();
     members();
     library();
+    source();
     room();
     checks.finish();
   }
@@ -194,6 +203,29 @@ final class RulesTest {
       default:
         return new int[] {bytes.readUnsignedShort(), bytes.readUnsignedShort()};
     }
+  }
+
+  /** What a class file does not show; the tests are run from the project's first directory. */
+  private static void source() throws IOException {
+    List<String> lines = Files.readAllLines(Path.of("src/main/java/Heckeworks.java"));
+    List<String> wrong = new ArrayList<>();
+    int methods = 0;
+    int start = 0;
+    for (int i = 0; i < lines.size(); i++) {
+      String line = lines.get(i);
+      boolean isThrow = line.contains("throw ") && !line.matches(" *throw new [A-Za-z]+Exception\\(\"[^\"]*\"\\);");
+      boolean isOdd = NOT_THERE.matcher(line).find() || !line.matches("[ -~]*");
+      boolean isLong = line.matches("  (  )?\\}") && i - start >= 60 && start > 0;
+      if (isThrow || isOdd || isLong) {
+        wrong.add(i + 1 + ": " + line.trim());
+      }
+      if (METHOD.matcher(line).matches()) {
+        start = i;
+        methods++;
+      }
+    }
+    checks.same("rules 2 to 6 and 11: lines that are not allowed", wrong, new ArrayList<>());
+    checks.same("rule 11: methods are found in the source", methods > 100, true);
   }
 
   /** Calls make nothing: what an object needs is made with it. */

@@ -5,6 +5,7 @@ final class WholeTest {
   public static void main(String[] args) {
     newObject();
     counts();
+    toldAlone();
     shares();
     wraps();
     sound();
@@ -41,6 +42,41 @@ final class WholeTest {
         mill::allCoefficients);
     checks.refuses("promise 36: a call that throws", Checks.UNSUPPORTED, () -> mill.raise(0, 16));
     checks.answers("promise 36: a call that throws makes none", 3, mill::series);
+  }
+
+  /** Series of the precision 2, made of one that is told up to 63 and one that is told up to 1: 1 and 240 of E. */
+  private static void toldAlone() {
+    Heckeworks mill = new Heckeworks();
+    mill.eisenstein(4);
+    long total = 1;
+    for (int n = 1; n < 64; n++) {
+      total += mill.coefficient(0, n);
+    }
+    checks.answers("promise 37: all of E", total, mill::allCoefficients);
+    mill.operator(0, 63);
+    // The sum of the cubes of the divisors of 63 is 260408.
+    total += 260408L * 241;
+    checks.answers("promise 37: and the operator 63 of it", total, mill::allCoefficients);
+    mill.sum(0, 1, 1);
+    total += 260409L * 241;
+    checks.answers("promise 37: and the sum of both", total, mill::allCoefficients);
+    mill.sum(1, 0, -1);
+    total += 260407L * 241;
+    checks.answers("promise 37: and the other way round", total, mill::allCoefficients);
+    mill.product(0, 1);
+    total += 260408L * 481;
+    checks.answers("promise 37: and the product of both", total, mill::allCoefficients);
+    mill.product(1, 0);
+    total += 260408L * 481;
+    checks.answers("promise 37: and of both the other way round", total, mill::allCoefficients);
+    mill.raise(2, 2);
+    total += 260409L * 241;
+    checks.answers("promise 37: and the sum at 2", total, mill::allCoefficients);
+    mill.operator(2, 1);
+    total += 260409L * 241;
+    checks.answers("promise 37: and the operator 1 of the sum", total, mill::allCoefficients);
+    checks.answers("promise 38: 64, six times 2, and 4 of 512", 80.0f / 512.0f, mill::toldShare);
+    checks.answers("promise 41: 80 of 512", Float.floatToIntBits(0.15625f), mill::toldBits);
   }
 
   private static void shares() {
